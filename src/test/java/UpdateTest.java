@@ -106,6 +106,11 @@ public final class UpdateTest {
         checks.due("there: put(4, 20, -1)", x.put(4, 20, -1), 7);
         checks.due("there: shared(4, 7), which are 5 and 15", x.shared(4, 7), 2);
         checks.dueKeys("there", x, 7, 5, 10, 15, 20);
+        TreapVersions y = new TreapVersions(40, 8, 5);
+        y.put(0, 10, 1);
+        y.put(1, 10, 2);
+        y.put(2, 20, 3);
+        checks.dueDepths("there, its weight kept", y, 3, 10, 0, 20, 1);
     }
 
     private static void putOfEdgeKeys() {
