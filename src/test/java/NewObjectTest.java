@@ -16,15 +16,20 @@ public final class NewObjectTest {
         for (int versions : new int[] {0, -1, 9, 10, 1000, Integer.MIN_VALUE, Integer.MAX_VALUE}) {
             dueVersions(versions, 4);
         }
+        for (int size : new int[] {0, -1, 41, Integer.MIN_VALUE, Integer.MAX_VALUE}) {
+            bothAreWrong(size);
+        }
         seedsDiffer();
         checks.end();
     }
 
     private static void startsEmpty() {
         TreapVersions x = new TreapVersions(5, 3, 77);
+        checks.due("new: isLive(-1)", x.isLive(-1), false);
         checks.due("new: isLive(0)", x.isLive(0), true);
         checks.due("new: isLive(1)", x.isLive(1), false);
         checks.due("new: isLive(2)", x.isLive(2), false);
+        checks.due("new: isLive(3)", x.isLive(3), false);
         checks.due("new: size(0)", x.size(0), 0);
         checks.due("new: nodes()", x.nodes(), 0);
         checks.due("new: used()", x.used(), 0);
@@ -40,6 +45,8 @@ public final class NewObjectTest {
             most = Math.max(most, x.used());
         }
         checks.due("the room for " + room, most, want);
+        // Nothing is live at a sweep, so that the next one is as many puts away as there are places.
+        checks.due("the sweeps in a room for " + room, x.sweeps(), (50 - 1) / want);
     }
 
     private static void dueVersions(int versions, int want) {
@@ -50,6 +57,24 @@ public final class NewObjectTest {
         checks.due("versions " + versions + ": remove(0, 1)", x.remove(0, 1), TreapVersions.NOHANDLE);
         checks.due("versions " + versions + ": isLive(last)", x.isLive(want - 1), true);
         checks.due("versions " + versions + ": isLive(behind it)", x.isLive(want), false);
+    }
+
+    /** A size that is neither a room nor a number of versions: 20 places and 4 handles. */
+    private static void bothAreWrong(int size) {
+        TreapVersions x = new TreapVersions(size, size, 1);
+        for (int i = 0; i < 20; i++) {
+            x.drop(x.put(0, 1, i));
+        }
+        checks.due("both " + size + ": used()", x.used(), 20);
+        checks.due("both " + size + ": sweeps()", x.sweeps(), 0);
+        for (int handle = 1; handle < 4; handle++) {
+            checks.due("both " + size + ": below(0, 1)", x.below(0, 1), handle);
+        }
+        checks.due("both " + size + ": below(0, 1)", x.below(0, 1), TreapVersions.NOHANDLE);
+        x.drop(1);
+        checks.due("both " + size + ": put(0, 1, 1)", x.put(0, 1, 1), 1);
+        checks.due("both " + size + ": used() after the next", x.used(), 1);
+        checks.due("both " + size + ": sweeps() after the next", x.sweeps(), 1);
     }
 
     /** The first two weights are 15, 9 with the seed 5; 0, 1 with 33; 9, 9 with -1; 0, 15 with -5. */
