@@ -4,7 +4,7 @@ final class Checks {
         long answer();
     }
 
-    private int made = 0;
+    private long made = 0;
     private int wrong = 0;
 
     void due(String call, long got, long want) {

@@ -2,6 +2,7 @@ import java.util.ArrayList;
 import java.util.Collections;
 import java.util.IdentityHashMap;
 import java.util.List;
+import java.util.Map;
 import java.util.NoSuchElementException;
 import java.util.Set;
 
@@ -281,6 +282,30 @@ final class Model {
 
     int sweeps() {
         return sweeps;
+    }
+
+    /** The state in a text: two states with the same one answer the same for ever, but for how often was swept. */
+    String picture() {
+        StringBuilder text = new StringBuilder();
+        Map<Node, Integer> numbers = new IdentityHashMap<>();
+        for (int handle = 0; handle < live.length; handle++) {
+            text.append(live[handle] ? "live " : "not live ");
+            draw(trees[handle], numbers, text);
+        }
+        return text.append(used).append(' ').append(seed).toString();
+    }
+
+    /** A node is told in full where it comes first, and by its number from then on. */
+    private static void draw(Node t, Map<Node, Integer> numbers, StringBuilder text) {
+        if (t == null || numbers.containsKey(t)) {
+            text.append(t == null ? "none " : "node " + numbers.get(t) + " ");
+            return;
+        }
+        numbers.put(t, numbers.size());
+        text.append('(').append(t.key).append(' ').append(t.value).append(' ').append(t.weight).append(' ');
+        draw(t.left, numbers, text);
+        draw(t.right, numbers, text);
+        text.append(") ");
     }
 
     private static Set<Node> identities(List<Node> nodes) {
