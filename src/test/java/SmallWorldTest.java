@@ -7,9 +7,9 @@ import java.util.NoSuchElementException;
 
 /**
  * All promises, in any order of calls: worlds with few places, handles and keys. From a new object on, the first
- * states that calls can lead to are looked at in full, and in each of them every update and drop is tried. ModelTest
- * makes long runs but picks its calls; this one makes short runs and leaves none out. An argument tells how many
- * states of each world are gone on from.
+ * states that calls can lead to are looked at in full, and in each of them the updates and drops with the world's
+ * handles and keys are tried, one and all. ModelTest makes long runs but picks its calls; this one makes short runs
+ * and picks none. An argument tells how many states of each world are gone on from.
  */
 public final class SmallWorldTest {
     private static final int MIN = Integer.MIN_VALUE;
